@@ -151,7 +151,7 @@ public final class MilkBox {
             return FULL;
         }
         int number = visitCount;
-        Visit coming = new Visit(cow, clock, reading, one.isAlarming(reading));
+        Visit coming = new Visit(cow, one.kind == SHY, clock, reading, one.isAlarming(reading));
         visits[number] = coming;
         visitCount++;
         one.keepReading(reading);
@@ -159,7 +159,7 @@ public final class MilkBox {
             alarms++;
         }
         if (one.hasRightAt(clock)) {
-            line.addLast(coming, one.kind == SHY);
+            line.addLast(coming);
             fillBox();
         } else {
             coming.kind = REFUSAL;
@@ -375,8 +375,9 @@ public final class MilkBox {
         int ahead = 0;
         for (int other = 0; other < cowCount; other++) {
             Cow one = cowAt(other);
-            if (one != null && (one.milkedInAll > mine.milkedInAll
-                    || one.milkedInAll == mine.milkedInAll && other < number)) {
+            // Of like ones the lesser number is ahead.
+            int least = other < number ? mine.milkedInAll : mine.milkedInAll + 1;
+            if (one != null && one.milkedInAll >= least) {
                 ahead++;
             }
         }
@@ -475,6 +476,7 @@ public final class MilkBox {
     /** A visit as the books have it. */
     private static final class Visit {
         final int cow;
+        final boolean shy;
         final int minute;
         final int reading;
         final boolean alarm;
@@ -486,8 +488,9 @@ public final class MilkBox {
         int lost = NONE;
         int feed = NONE;
 
-        Visit(int cow, int minute, int reading, boolean alarm) {
+        Visit(int cow, boolean shy, int minute, int reading, boolean alarm) {
             this.cow = cow;
+            this.shy = shy;
             this.minute = minute;
             this.reading = reading;
             this.alarm = alarm;
@@ -521,7 +524,6 @@ public final class MilkBox {
     /** The cows that wait, as their visits. */
     private static final class Line {
         final Visit[] places = new Visit[MOST_COWS];
-        final boolean[] shy = new boolean[MOST_COWS];
         int size;
 
         Visit at(int i) {
@@ -538,10 +540,9 @@ public final class MilkBox {
             return NONE;
         }
 
-        void addLast(Visit coming, boolean isShy) {
-            if (size >= 0 && size < places.length && size < shy.length) {
+        void addLast(Visit coming) {
+            if (size >= 0 && size < places.length) {
                 places[size] = coming;
-                shy[size] = isShy;
                 size++;
             }
         }
@@ -556,9 +557,9 @@ public final class MilkBox {
         }
 
         private int choose(int minute) {
-            for (int i = 0; i < size && i < shy.length; i++) {
+            for (int i = 0; i < size; i++) {
                 Visit one = at(i);
-                if (one != null && shy[i] && minute - one.minute >= SHY_PATIENCE) {
+                if (one != null && one.shy && minute - one.minute >= SHY_PATIENCE) {
                     return i;
                 }
             }
@@ -566,9 +567,8 @@ public final class MilkBox {
         }
 
         private void closeUp(int gap) {
-            for (int i = Math.max(0, gap); i + 1 < size && i + 1 < places.length && i + 1 < shy.length; i++) {
+            for (int i = Math.max(0, gap); i + 1 < size && i + 1 < places.length; i++) {
                 places[i] = places[i + 1];
-                shy[i] = shy[i + 1];
             }
             size--;
         }

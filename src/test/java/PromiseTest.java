@@ -31,6 +31,7 @@ public final class PromiseTest {
         powerKeepsTheQueue();
         box();
         queue();
+        queueOfTwelve();
         shyOnesGoAhead();
         ends();
         teats();
@@ -317,6 +318,10 @@ public final class PromiseTest {
         x.pass(10);
         c.due("with what was LEFT", x.about(0, 0), 110);
         c.due("about(0, 1)", x.about(0, 1), 1800);
+        x.come(0, 1);
+        c.due("in the BOX, what was LEFT is 0", x.about(0, 0), 0);
+        x.power(false);
+        c.due("a CUT leaves it", x.about(0, 0), 110);
         x.pass(579);
         c.due("with what was LEFT, ahead of 400", x.about(0, 0), 399);
         x.pass(20000);
@@ -726,6 +731,26 @@ public final class PromiseTest {
         c.due("queue(2)", x.queue(2), NONE);
     }
 
+    private static void queueOfTwelve() {
+        Check c = new Check("promise 11, twelve wait");
+        MilkBox x = new MilkBox();
+        x.power(false);
+        for (int i = 0; i < 12; i++) {
+            x.cow(0, 1, 0, 0);
+            x.come(i, 1);
+        }
+        c.due("total(9)", x.total(9), 12);
+        c.due("queue(11)", x.queue(11), 11);
+        c.due("queue(12)", x.queue(12), NONE);
+        x.power(true);
+        for (int i = 0; i < 12; i++) {
+            c.due("box()", x.box(), i);
+            c.due("about(11, 4)", x.about(11, 4), i == 11 ? NONE : 10 - i);
+            x.pass(2);
+        }
+        c.due("box()", x.box(), NONE);
+    }
+
     private static void shyOnesGoAhead() {
         Check c = new Check("promise 11, SHY ones");
         for (int minutes = 28; minutes <= 31; minutes++) {
@@ -764,6 +789,23 @@ public final class PromiseTest {
         c.due("box()", y.box(), 1);
         y.pass(3);
         c.due("box()", y.box(), 0);
+        // The first of the queue is SHY itself; when one has gone ahead the others are what they were.
+        MilkBox w = withCow(1, 6, 0, 0);
+        w.cow(0, 6, 0, 0);
+        w.cow(0, 6, 0, 0);
+        w.cow(1, 6, 0, 0);
+        w.power(false);
+        int[] coming = {0, 1, 2, 3};
+        for (int cow : coming) {
+            w.come(cow, 1);
+        }
+        w.pass(30);
+        w.power(true);
+        int[] entering = {0, 3, 1, 2};
+        for (int cow : entering) {
+            c.due("box()", w.box(), cow);
+            w.pass(3);
+        }
         // One that has waited for 29 minutes when the box is free is passed over, for 30 it is not.
         for (int come = 0; come <= 1; come++) {
             MilkBox z = withCow(0, 30, 0, 0);
