@@ -1194,6 +1194,14 @@ public final class PromiseTest {
         c.due("rank(MOST)", x.rank(MOST), NONE);
         c.due("rank(LEAST)", x.rank(LEAST), NONE);
         c.due("rank(NONE)", x.rank(NONE), NONE);
+        MilkBox y = withCow(0, 6, 0, 0);
+        y.cow(0, 12, 0, 0);
+        y.pass(10);
+        y.come(0, 1);
+        y.come(1, 1);
+        y.pass(10);
+        c.due("one more, rank(0)", y.rank(0), 1);
+        c.due("one less, rank(1)", y.rank(1), 0);
     }
 
     private static void until() {
