@@ -1,3 +1,5 @@
+import java.util.function.IntUnaryOperator;
+
 /** Counts the answers that are not as due, and ends the test with exit code 1 if there was one. */
 final class Check {
     private final String part;
@@ -13,6 +15,13 @@ final class Check {
         if (got != want) {
             wrong++;
             System.out.println(part + ": " + call + " answered " + got + ", due is " + want);
+        }
+    }
+
+    /** Inputs at a boundary and on each side of it, each with the answer that is due. */
+    void around(String what, IntUnaryOperator call, int[][] inputsAndDue) {
+        for (int[] one : inputsAndDue) {
+            due(what + " " + one[0], call.applyAsInt(one[0]), one[1]);
         }
     }
 

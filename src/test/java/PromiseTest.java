@@ -51,13 +51,6 @@ public final class PromiseTest {
         Check.close();
     }
 
-    // A cow of rate 6 has a tenth of its minutes, up to 400.
-    private static MilkBox withCow(int kind, int rate, int wait, int feed) {
-        MilkBox x = new MilkBox();
-        x.cow(kind, rate, wait, feed);
-        return x;
-    }
-
     private static void constants() {
         Check c = new Check("constants");
         c.due("UNKNOWN", MilkBox.UNKNOWN, UNKNOWN);
@@ -161,7 +154,7 @@ public final class PromiseTest {
 
     private static void withhold() {
         Check c = new Check("promise 4");
-        MilkBox x = withCow(0, 6, 0, 0);
+        MilkBox x = Farm.withCow(0, 6, 0, 0);
         c.due("withhold(1, -1)", x.withhold(1, -1), UNKNOWN);
         c.due("withhold(-1, 0)", x.withhold(-1, 0), UNKNOWN);
         c.due("withhold(0, -1)", x.withhold(0, -1), BAD);
@@ -199,7 +192,7 @@ public final class PromiseTest {
 
     private static void withholdOfSick() {
         Check c = new Check("promise 4, SICK");
-        MilkBox x = withCow(2, 30, 0, 0);
+        MilkBox x = Farm.withCow(2, 30, 0, 0);
         x.room(1);
         c.due("withhold(0, 7)", x.withhold(0, 7), 0);
         c.due("withhold(0, 0)", x.withhold(0, 0), 7);
@@ -215,7 +208,7 @@ public final class PromiseTest {
 
     private static void withholdWhileMilked() {
         Check c = new Check("promise 4, told in the BOX");
-        MilkBox x = withCow(0, 30, 0, 0);
+        MilkBox x = Farm.withCow(0, 30, 0, 0);
         x.pass(100);
         x.come(0, 1);
         c.due("withhold(0, 200000)", x.withhold(0, 200000), 0);
@@ -229,7 +222,7 @@ public final class PromiseTest {
 
     private static void trouble() {
         Check c = new Check("promise 5");
-        MilkBox x = withCow(0, 6, 0, 0);
+        MilkBox x = Farm.withCow(0, 6, 0, 0);
         c.due("trouble(1, 0, 0)", x.trouble(1, 0, 0), UNKNOWN);
         c.due("trouble(-1, 0, 0)", x.trouble(-1, 0, 0), UNKNOWN);
         c.due("trouble(0, 4, 0)", x.trouble(0, 4, 0), UNKNOWN);
@@ -248,7 +241,7 @@ public final class PromiseTest {
 
     private static void troubleToldInTheBox() {
         Check c = new Check("promise 5, told in the BOX");
-        MilkBox x = withCow(0, 6, 0, 0);
+        MilkBox x = Farm.withCow(0, 6, 0, 0);
         x.trouble(0, 2, 3);
         x.pass(200);
         x.come(0, 1);
@@ -274,7 +267,7 @@ public final class PromiseTest {
         int[] milked = {40, 40, 40, 40, 30, 30, 40, 0, 30, 20};
         int[] lost = {0, 0, 0, 0, 1, 1, 0, 4, 1, 2};
         for (int i = 0; i < troubles.length; i++) {
-            MilkBox x = withCow(0, 6, 0, 0);
+            MilkBox x = Farm.withCow(0, 6, 0, 0);
             for (int teat = 0; teat < 4; teat++) {
                 x.trouble(0, teat, troubles[i][teat]);
             }
@@ -293,7 +286,7 @@ public final class PromiseTest {
 
     private static void aboutMilk() {
         Check c = new Check("promise 6, milk");
-        MilkBox x = withCow(0, 30, 0, 0);
+        MilkBox x = Farm.withCow(0, 30, 0, 0);
         c.due("about(1, 0)", x.about(1, 0), UNKNOWN);
         c.due("about(-1, 0)", x.about(-1, 0), UNKNOWN);
         c.due("about(1, 7)", x.about(1, 7), UNKNOWN);
@@ -330,7 +323,7 @@ public final class PromiseTest {
 
     private static void aboutRight() {
         Check c = new Check("promise 6, RIGHT");
-        MilkBox x = withCow(0, 6, 10, 0);
+        MilkBox x = Farm.withCow(0, 6, 10, 0);
         x.cow(0, 6, 0, 0);
         c.due("never milked", x.about(0, 2), 1);
         c.due("about(0, 1)", x.about(0, 1), NONE);
@@ -362,7 +355,7 @@ public final class PromiseTest {
 
     private static void aboutFeed() {
         Check c = new Check("promise 6, FEED");
-        MilkBox x = withCow(0, 30, 0, 450);
+        MilkBox x = Farm.withCow(0, 30, 0, 450);
         x.pass(40);
         x.come(0, 1);
         c.due("while under way", x.about(0, 3), 0);
@@ -400,7 +393,7 @@ public final class PromiseTest {
 
     private static void aboutPlaceAndSums() {
         Check c = new Check("promise 6, place and sums");
-        MilkBox x = withCow(0, 6, 0, 0);
+        MilkBox x = Farm.withCow(0, 6, 0, 0);
         x.cow(0, 6, 0, 0);
         x.cow(0, 6, 0, 0);
         x.pass(400);
@@ -447,7 +440,7 @@ public final class PromiseTest {
 
     private static void passSeveral() {
         Check c = new Check("promise 7, all that happens");
-        MilkBox x = withCow(0, 6, 0, 100);
+        MilkBox x = Farm.withCow(0, 6, 0, 100);
         x.cow(1, 12, 0, 100);
         x.cow(2, 30, 0, 100);
         x.pass(100);
@@ -473,7 +466,7 @@ public final class PromiseTest {
 
     private static void come() {
         Check c = new Check("promise 8");
-        MilkBox x = withCow(0, 6, 0, 0);
+        MilkBox x = Farm.withCow(0, 6, 0, 0);
         x.cow(0, 6, 0, 0);
         c.due("come(2, 0)", x.come(2, 0), UNKNOWN);
         c.due("come(-1, 0)", x.come(-1, 0), UNKNOWN);
@@ -500,7 +493,7 @@ public final class PromiseTest {
 
     private static void comeRefused() {
         Check c = new Check("promise 8, REFUSED");
-        MilkBox x = withCow(0, 6, 1440, 0);
+        MilkBox x = Farm.withCow(0, 6, 1440, 0);
         x.come(0, 1);
         x.pass(1439);
         c.due("come(0, 2)", x.come(0, 2), 1);
@@ -521,7 +514,7 @@ public final class PromiseTest {
 
     private static void comeFull() {
         Check c = new Check("promise 8, FULL");
-        MilkBox x = withCow(0, 6, 1440, 0);
+        MilkBox x = Farm.withCow(0, 6, 1440, 0);
         x.come(0, 1);
         x.pass(2);
         for (int i = 1; i < 500; i++) {
@@ -536,7 +529,7 @@ public final class PromiseTest {
         c.due("visit(499, 0, 3)", x.visit(499, 0, 3), 499);
         c.due("visit(500, 3, 0)", x.visit(500, 3, 0), UNKNOWN);
 
-        MilkBox y = withCow(0, 6, 1440, 0);
+        MilkBox y = Farm.withCow(0, 6, 1440, 0);
         y.come(0, 1);
         y.pass(2);
         for (int i = 1; i < 499; i++) {
@@ -549,7 +542,7 @@ public final class PromiseTest {
 
     private static void alarm() {
         Check c = new Check("promise 8, ALARM");
-        MilkBox x = withCow(0, 6, 1440, 0);
+        MilkBox x = Farm.withCow(0, 6, 1440, 0);
         int[] readings = {1000, 10, 10, 10, 10, 10, 12, 13, 13, 14};
         // The 12 meets five 10s: 600 is not above 600. The 13 meets 52: 650 is above 624.
         // The next meets 55: 650 is not above 660. The 14 meets 58: 700 is above 696.
@@ -584,7 +577,7 @@ public final class PromiseTest {
         int[] lastAlarms = {1, 1, 0, 0, 1, 0, 0, 0, 1, 1, 0, 1, 0, 1, 0};
         int[] allAlarms = {1, 1, 0, 0, 1, 1, 0, 0, 1, 1, 3, 5, 0, 1, 0};
         for (int i = 0; i < readings.length; i++) {
-            MilkBox x = withCow(0, 6, 1440, 0);
+            MilkBox x = Farm.withCow(0, 6, 1440, 0);
             x.cow(0, 6, 1440, 0);
             x.come(1, 1000);
             x.come(0, readings[i][0]);
@@ -604,7 +597,7 @@ public final class PromiseTest {
 
     private static void power() {
         Check c = new Check("promise 9");
-        MilkBox x = withCow(0, 30, 0, 100);
+        MilkBox x = Farm.withCow(0, 30, 0, 100);
         c.due("power(true)", x.power(true), 1);
         c.due("power(false)", x.power(false), 1);
         c.due("power(false)", x.power(false), 0);
@@ -614,7 +607,7 @@ public final class PromiseTest {
         // 100 milk and 2 of TROUBLE: 2 + 2 + 5 minutes.
         int[] milked = {0, 0, 0, 0, 0, 20, 40, 60, 80};
         for (int minute = 0; minute < 9; minute++) {
-            MilkBox y = withCow(0, 30, 0, 5000);
+            MilkBox y = Farm.withCow(0, 30, 0, 5000);
             y.trouble(0, 1, 2);
             y.pass(200);
             y.come(0, 1);
@@ -637,7 +630,7 @@ public final class PromiseTest {
             c.due("total(4)", y.total(4), milked[minute]);
         }
         // 52 of teats that are not LOST: 40 by the minute ahead of the last, though 68 are there.
-        MilkBox z = withCow(0, 30, 0, 5000);
+        MilkBox z = Farm.withCow(0, 30, 0, 5000);
         z.trouble(0, 3, 4);
         z.pass(138);
         z.come(0, 1);
@@ -651,7 +644,7 @@ public final class PromiseTest {
 
     private static void powerOffInTheLastMinute() {
         Check c = new Check("promise 9, the minute of the end");
-        MilkBox x = withCow(0, 6, 0, 0);
+        MilkBox x = Farm.withCow(0, 6, 0, 0);
         x.cow(0, 6, 0, 0);
         x.pass(400);
         x.come(0, 1);
@@ -670,7 +663,7 @@ public final class PromiseTest {
 
     private static void powerKeepsTheQueue() {
         Check c = new Check("promise 9, the others wait on");
-        MilkBox x = withCow(0, 6, 0, 0);
+        MilkBox x = Farm.withCow(0, 6, 0, 0);
         x.cow(0, 6, 0, 0);
         x.cow(0, 6, 0, 0);
         x.come(0, 1);
@@ -692,7 +685,7 @@ public final class PromiseTest {
 
     private static void box() {
         Check c = new Check("promise 10");
-        MilkBox x = withCow(0, 6, 0, 0);
+        MilkBox x = Farm.withCow(0, 6, 0, 0);
         x.cow(0, 6, 0, 0);
         c.due("box()", x.box(), NONE);
         x.come(1, 1);
@@ -709,7 +702,7 @@ public final class PromiseTest {
 
     private static void queue() {
         Check c = new Check("promise 11");
-        MilkBox x = withCow(0, 6, 0, 0);
+        MilkBox x = Farm.withCow(0, 6, 0, 0);
         for (int i = 0; i < 4; i++) {
             x.cow(0, 6, 0, 0);
         }
@@ -754,7 +747,7 @@ public final class PromiseTest {
     private static void shyOnesGoAhead() {
         Check c = new Check("promise 11, SHY ones");
         for (int minutes = 28; minutes <= 31; minutes++) {
-            MilkBox x = withCow(0, 6, 0, 0);
+            MilkBox x = Farm.withCow(0, 6, 0, 0);
             x.cow(2, 6, 0, 0);
             x.cow(1, 6, 0, 0);
             x.cow(1, 6, 0, 0);
@@ -775,7 +768,7 @@ public final class PromiseTest {
             c.due("all BEGAN in " + minutes, x.total(9), 0);
         }
         // Of the two SHY ones the first of the queue enters, then the other, then the cows.
-        MilkBox y = withCow(0, 6, 0, 0);
+        MilkBox y = Farm.withCow(0, 6, 0, 0);
         y.cow(1, 6, 0, 0);
         y.cow(1, 6, 0, 0);
         y.power(false);
@@ -790,7 +783,7 @@ public final class PromiseTest {
         y.pass(3);
         c.due("box()", y.box(), 0);
         // The first of the queue is SHY itself; when one has gone ahead the others are what they were.
-        MilkBox w = withCow(1, 6, 0, 0);
+        MilkBox w = Farm.withCow(1, 6, 0, 0);
         w.cow(0, 6, 0, 0);
         w.cow(0, 6, 0, 0);
         w.cow(1, 6, 0, 0);
@@ -808,7 +801,7 @@ public final class PromiseTest {
         }
         // One that has waited for 29 minutes when the box is free is passed over, for 30 it is not.
         for (int come = 0; come <= 1; come++) {
-            MilkBox z = withCow(0, 30, 0, 0);
+            MilkBox z = Farm.withCow(0, 30, 0, 0);
             z.cow(0, 6, 0, 0);
             z.cow(1, 6, 0, 0);
             for (int teat = 0; teat < 4; teat++) {
@@ -832,7 +825,7 @@ public final class PromiseTest {
         // Milk and minutes: 2, and one for each 20 that are begun.
         int[][] cases = {{9, 2}, {10, 3}, {200, 3}, {209, 3}, {210, 4}, {400, 4}, {410, 5}, {4000, 22}, {9999, 22}};
         for (int[] one : cases) {
-            MilkBox x = withCow(0, 6, 0, 0);
+            MilkBox x = Farm.withCow(0, 6, 0, 0);
             c.due("ends()", x.ends(), NONE);
             x.pass(one[0]);
             x.come(0, 1);
@@ -857,7 +850,7 @@ public final class PromiseTest {
         Check c = new Check("a milking's teats");
         // 43 milk: 13, 10, 10, 10.
         for (int teat = 0; teat < 4; teat++) {
-            MilkBox x = withCow(0, 6, 0, 0);
+            MilkBox x = Farm.withCow(0, 6, 0, 0);
             x.trouble(0, teat, 4);
             x.pass(430);
             x.come(0, 1);
@@ -866,7 +859,7 @@ public final class PromiseTest {
             c.due("HAS without teat " + teat, x.about(0, 0), teat == 0 ? 13 : 10);
         }
         // 3 milk are all of the first one's.
-        MilkBox y = withCow(0, 6, 0, 0);
+        MilkBox y = Farm.withCow(0, 6, 0, 0);
         y.trouble(0, 0, 9);
         y.pass(30);
         y.come(0, 1);
@@ -884,7 +877,7 @@ public final class PromiseTest {
 
     private static void room() {
         Check c = new Check("promise 13");
-        MilkBox x = withCow(0, 6, 0, 0);
+        MilkBox x = Farm.withCow(0, 6, 0, 0);
         c.due("room(0)", x.room(0), BAD);
         c.due("room(-1)", x.room(-1), BAD);
         c.due("room(100001)", x.room(100001), BAD);
@@ -914,7 +907,7 @@ public final class PromiseTest {
 
     private static void pick() {
         Check c = new Check("promise 14");
-        MilkBox x = withCow(0, 6, 0, 0);
+        MilkBox x = Farm.withCow(0, 6, 0, 0);
         c.due("pick(0)", x.pick(0), BAD);
         c.due("pick(-1)", x.pick(-1), BAD);
         c.due("pick(100001)", x.pick(100001), BAD);
@@ -930,7 +923,7 @@ public final class PromiseTest {
         c.due("total(3)", x.total(3), 40);
         c.due("total(4)", x.total(4), 40);
         c.due("room(1)", x.room(1), 5000);
-        MilkBox y = withCow(2, 6, 0, 0);
+        MilkBox y = Farm.withCow(2, 6, 0, 0);
         y.pass(400);
         y.come(0, 1);
         y.pass(4);
@@ -940,7 +933,7 @@ public final class PromiseTest {
 
     private static void poured() {
         Check c = new Check("milk POURED");
-        MilkBox x = withCow(0, 30, 0, 5000);
+        MilkBox x = Farm.withCow(0, 30, 0, 5000);
         x.room(19);
         x.pass(800);
         x.come(0, 1);
@@ -962,7 +955,7 @@ public final class PromiseTest {
 
     private static void total() {
         Check c = new Check("promise 15");
-        MilkBox x = withCow(0, 30, 100, 5000);
+        MilkBox x = Farm.withCow(0, 30, 100, 5000);
         x.cow(2, 30, 100, 3);
         x.cow(1, 6, 0, 0);
         x.pass(80);
@@ -1005,7 +998,7 @@ public final class PromiseTest {
     }
 
     private static MilkBox withVisitsOfAllKinds() {
-        MilkBox x = withCow(0, 30, 100, 5000);
+        MilkBox x = Farm.withCow(0, 30, 100, 5000);
         x.cow(0, 30, 0, 5000);
         x.pass(80);
         x.come(0, 11);
@@ -1056,7 +1049,7 @@ public final class PromiseTest {
 
     private static void visitUnderWay() {
         Check c = new Check("promise 16, under way");
-        MilkBox x = withCow(0, 30, 0, 5000);
+        MilkBox x = Farm.withCow(0, 30, 0, 5000);
         x.trouble(0, 1, 4);
         x.trouble(0, 2, 5);
         x.pass(80);
@@ -1090,7 +1083,7 @@ public final class PromiseTest {
 
     private static void gave() {
         Check c = new Check("promise 18");
-        MilkBox x = withCow(0, 6, 0, 0);
+        MilkBox x = Farm.withCow(0, 6, 0, 0);
         x.cow(0, 6, 0, 0);
         x.pass(400);
         x.come(0, 1);
@@ -1118,7 +1111,7 @@ public final class PromiseTest {
         c.due("gave(2, -1)", x.gave(2, -1), UNKNOWN);
         // One that ends in minute 1440 is of DAY 1, in 1439 of DAY 0.
         for (int minute = 1439; minute <= 1440; minute++) {
-            MilkBox y = withCow(0, 6, 0, 1000);
+            MilkBox y = Farm.withCow(0, 6, 0, 1000);
             y.pass(10);
             y.come(0, 1);
             y.pass(minute - 20);
@@ -1128,7 +1121,7 @@ public final class PromiseTest {
             c.due("gave(0, 0)", y.gave(0, 0), minute == 1439 ? 1 + 141 : 1);
             c.due("gave(0, 1)", y.gave(0, 1), minute == 1439 ? 0 : 142);
         }
-        MilkBox z = withCow(0, 6, 0, 0);
+        MilkBox z = Farm.withCow(0, 6, 0, 0);
         z.pass(1436);
         z.come(0, 1);
         z.pass(5);
@@ -1139,7 +1132,7 @@ public final class PromiseTest {
 
     private static void longest() {
         Check c = new Check("promise 19");
-        MilkBox x = withCow(0, 6, 1000, 0);
+        MilkBox x = Farm.withCow(0, 6, 1000, 0);
         x.cow(0, 6, 0, 0);
         x.cow(0, 6, 0, 0);
         x.come(0, 1);
@@ -1169,7 +1162,7 @@ public final class PromiseTest {
 
     private static void rank() {
         Check c = new Check("promise 20");
-        MilkBox x = withCow(0, 6, 0, 0);
+        MilkBox x = Farm.withCow(0, 6, 0, 0);
         c.due("rank(0)", x.rank(0), 0);
         c.due("rank(1)", x.rank(1), NONE);
         x.cow(0, 12, 0, 0);
@@ -1194,7 +1187,7 @@ public final class PromiseTest {
         c.due("rank(MOST)", x.rank(MOST), NONE);
         c.due("rank(LEAST)", x.rank(LEAST), NONE);
         c.due("rank(NONE)", x.rank(NONE), NONE);
-        MilkBox y = withCow(0, 6, 0, 0);
+        MilkBox y = Farm.withCow(0, 6, 0, 0);
         y.cow(0, 12, 0, 0);
         y.pass(10);
         y.come(0, 1);
@@ -1206,7 +1199,7 @@ public final class PromiseTest {
 
     private static void until() {
         Check c = new Check("promise 21");
-        MilkBox x = withCow(0, 7, 0, 0);
+        MilkBox x = Farm.withCow(0, 7, 0, 0);
         x.cow(0, 1, 0, 0);
         x.cow(0, 30, 0, 0);
         c.due("until(3, 1)", x.until(3, 1), UNKNOWN);
@@ -1239,7 +1232,7 @@ public final class PromiseTest {
 
     private static void untilWithLeft() {
         Check c = new Check("promise 21, with what was LEFT");
-        MilkBox x = withCow(0, 6, 0, 0);
+        MilkBox x = Farm.withCow(0, 6, 0, 0);
         x.trouble(0, 0, 4);
         x.trouble(0, 1, 4);
         x.pass(4000);
