@@ -3,9 +3,6 @@ import java.lang.reflect.Constructor;
 import java.lang.reflect.Field;
 import java.lang.reflect.Method;
 import java.lang.reflect.Modifier;
-import java.nio.charset.StandardCharsets;
-import java.nio.file.Files;
-import java.nio.file.Path;
 import java.util.Set;
 import java.util.TreeSet;
 import java.util.regex.Matcher;
@@ -20,6 +17,7 @@ public final class FaceTest {
         "int visit(int,int,int)", "int visitOf(int,int)", "int gave(int,int)", "int longest()", "int rank(int)",
         "int until(int,int)");
     private static final Set<String> CONSTANTS = Set.of("UNKNOWN", "BAD", "STATE", "FULL", "NONE", "CAST");
+    private static final int MOST_CLASSES = 12, MOST_FIELDS = 20, MOST_PARAMETERS = 7;
     private static final Pattern FORBIDDEN = Pattern.compile(
         "\\b(throw|throws|try|catch|synchronized|assert|import|package|equals|hashCode|toString|protected)\\b|->|::");
 
@@ -30,6 +28,7 @@ public final class FaceTest {
         methods();
         fields();
         classesInside();
+        sizes();
         words();
         Check.close();
     }
@@ -97,14 +96,31 @@ public final class FaceTest {
         }
     }
 
-    // .ci/run says where the source is; without that there is nothing to read.
-    private static void words() throws IOException {
-        String source = System.getProperty("milkbox.source");
-        if (source == null) {
-            System.out.println("milkbox.source is not set: the words of the source are not looked at");
-            return;
+    private static void sizes() {
+        Class<?>[] inside = MilkBox.class.getDeclaredClasses();
+        CHECK.holds("there are " + inside.length + " classes inside", inside.length < MOST_CLASSES);
+        sizeOf(MilkBox.class);
+        for (Class<?> one : inside) {
+            sizeOf(one);
         }
-        String text = Files.readString(Path.of(source), StandardCharsets.UTF_8)
+    }
+
+    private static void sizeOf(Class<?> one) {
+        int fields = 0;
+        for (Field f : one.getDeclaredFields()) {
+            fields += Modifier.isStatic(f.getModifiers()) ? 0 : 1;
+        }
+        CHECK.holds(one + " has " + fields + " fields", fields <= MOST_FIELDS);
+        for (Method m : one.getDeclaredMethods()) {
+            CHECK.holds(m + " takes too many parameters", m.getParameterCount() <= MOST_PARAMETERS);
+        }
+        for (Constructor<?> made : one.getDeclaredConstructors()) {
+            CHECK.holds(made + " takes too many parameters", made.getParameterCount() <= MOST_PARAMETERS);
+        }
+    }
+
+    private static void words() throws IOException {
+        String text = Project.text("src/main/java/MilkBox.java")
             .replaceAll("(?s)/\\*.*?\\*/", "").replaceAll("//[^\n]*", "");
         Matcher found = FORBIDDEN.matcher(text);
         CHECK.holds("the source has a word that LANGUAGE.md leaves out", !found.find());
